@@ -24,8 +24,7 @@ public final class LinkTraining {
     // Far below every penalty: a lane without a tested pattern passes them all, however small its eye.
     private static final int NO_PENALTY = -1000000;
 
-    private final char[] input = new char[MAX_INPUT];
-    private int inputLength = 0;
+    private final StringBuilder input = new StringBuilder();
     private final StringBuilder output = new StringBuilder();
     private int parseCode = 0;
     private int parsePosition = NONE;
@@ -38,7 +37,7 @@ public final class LinkTraining {
     }
 
     public int append(int a, int b, int c, int d, int e) throws IllegalStateException {
-        if (inputLength + BYTES_APPENDED > MAX_INPUT) {
+        if (input.length() + BYTES_APPENDED > MAX_INPUT) {
             throw new IllegalStateException("the input buffer is full");
         }
         appendWord(a);
@@ -46,18 +45,17 @@ public final class LinkTraining {
         appendWord(c);
         appendWord(d);
         appendWord(e);
-        return inputLength;
+        return input.length();
     }
 
     public void truncate(int length) throws IllegalArgumentException {
-        requireRange(length, 0, inputLength);
-        inputLength = length;
+        requireRange(length, 0, input.length());
+        input.setLength(length);
     }
 
     public int load() {
-        Parser parser = new Parser(input, inputLength);
+        Parser parser = new Parser(takeInput());
         parser.parse();
-        inputLength = 0;
         parseCode = parser.code;
         parsePosition = parser.position;
         if (parser.code != 0) {
@@ -78,16 +76,11 @@ public final class LinkTraining {
 
     public int find(int kind) throws IllegalArgumentException {
         requireRange(kind, 0, 2);
-        int number;
+        String name = takeInput();
         if (kind == 0) {
-            number = state.link.rates.numberOf(input, 0, inputLength);
-        } else if (kind == 1) {
-            number = state.link.lanes.numberOf(input, 0, inputLength);
-        } else {
-            number = state.link.patterns.numberOf(input, 0, inputLength);
+            return state.link.rates.numberOf(name);
         }
-        inputLength = 0;
-        return number;
+        return kind == 1 ? state.link.lanes.numberOf(name) : state.link.patterns.numberOf(name);
     }
 
     public int rateCount() {
@@ -530,11 +523,14 @@ public final class LinkTraining {
 
     private void appendWord(int word) {
         for (int shift = 24; shift >= 0; shift -= 8) {
-            if (inputLength < input.length) {
-                input[inputLength] = (char) ((word >>> shift) & 255);
-                inputLength++;
-            }
+            input.append((char) ((word >>> shift) & 255));
         }
+    }
+
+    private String takeInput() {
+        String text = input.toString();
+        input.setLength(0);
+        return text;
     }
 
     private static void requireRange(int value, int low, int high) {
@@ -619,7 +615,8 @@ public final class LinkTraining {
     }
 
     private int attempt(int rate) {
-        int score = trainingScore(rate, NONE);
+        surveyAt(rate, NONE);
+        int score = survey.choose();
         state.record(rate, score);
         if (score != NONE) {
             state.rate = rate;
@@ -668,18 +665,6 @@ public final class LinkTraining {
         return c >= '0' && c <= '9';
     }
 
-    private static boolean isSame(String word, char[] text, int from, int to) {
-        if (from < 0 || to > text.length || to - from != word.length()) {
-            return false;
-        }
-        for (int i = 0; i < word.length(); i++) {
-            if (word.charAt(i) != text[from + i]) {
-                return false;
-            }
-        }
-        return true;
-    }
-
     private abstract static class Named {
         final String name;
 
@@ -707,9 +692,9 @@ public final class LinkTraining {
             things.add(thing);
         }
 
-        int numberOf(char[] text, int from, int to) {
+        int numberOf(String name) {
             for (int i = 0; i < things.size(); i++) {
-                if (isSame(things.get(i).name, text, from, to)) {
+                if (things.get(i).name.equals(name)) {
                     return i;
                 }
             }
@@ -779,46 +764,30 @@ public final class LinkTraining {
             // At least 1 because places in it are taken modulo its length.
             this.length = Math.max(length, 1);
             this.digits = digits;
-            this.longest = longestOf(digits, this.length);
-            this.turns = turnsOf(digits, this.length);
+            int following = digits >> 1 | (digits & 1) << (this.length - 1);
+            this.turns = Integer.bitCount(digits ^ following);
+            this.longest = longestOf(digits ^ following, this.length);
         }
 
-        private static int digitOf(int digits, int place, int length) {
-            return digits >> Math.floorMod(place, Math.max(length, 1)) & 1;
-        }
-
-        private static boolean turnsAfter(int digits, int place, int length) {
-            return digitOf(digits, place, length) != digitOf(digits, place + 1, length);
-        }
-
-        private static int longestOf(int digits, int length) {
+        /** The longest run of a pattern of which the set bits tell after which digits it turns. */
+        private static int longestOf(int turning, int length) {
             int run = 0;
             int longest = 0;
             // Twice round, so that a run over the end is met whole.
             for (int i = 0; i < 2 * length; i++) {
                 run++;
                 longest = Math.max(longest, run);
-                if (turnsAfter(digits, i, length)) {
+                if ((turning >> (i < length ? i : i - length) & 1) == 1) {
                     run = 0;
                 }
             }
             return Math.min(longest, length);
         }
 
-        private static int turnsOf(int digits, int length) {
-            int turns = 0;
-            for (int i = 0; i < length; i++) {
-                if (turnsAfter(digits, i, length)) {
-                    turns++;
-                }
-            }
-            return turns;
-        }
-
         int shifted(int by) {
             int bits = 0;
             for (int i = 0; i < length; i++) {
-                bits |= digitOf(digits, i + by, length) << i;
+                bits |= (digits >> Math.floorMod(i + by, length) & 1) << i;
             }
             return bits;
         }
@@ -879,8 +848,10 @@ public final class LinkTraining {
         // Above every range, and ten times it still fits an int.
         private static final int HUGE = 1000000;
 
-        private final char[] text;
-        private final int length;
+        private final String text;
+        private final StringBuilder signs = new StringBuilder();
+        // The present token, empty at the end of the text, and where it starts and ends.
+        private String token = "";
         private int start = 0;
         private int end = 0;
         private boolean hasStress = false;
@@ -889,15 +860,14 @@ public final class LinkTraining {
         int position = NONE;
         Link link = new Link(1, 4, 1);
 
-        Parser(char[] text, int length) {
+        Parser(String text) {
             this.text = text;
-            this.length = Math.min(length, text.length);
         }
 
         void parse() {
             next();
             parseLink();
-            for (int i = 0; i < length && code == 0 && start < length; i++) {
+            for (int i = 0; i < text.length() && code == 0 && !token.isEmpty(); i++) {
                 parseStatement();
             }
             if (link.rates.count() == 0 || link.lanes.count() == 0 || link.patterns.count() == 0) {
@@ -937,7 +907,7 @@ public final class LinkTraining {
 
         private void parseRate() {
             begin(link.rates.count() >= MAX_RATES);
-            String name = newName(link.rates.numberOf(text, start, end));
+            String name = newName(link.rates.numberOf(token));
             expect("period");
             int period = number(100, 2000);
             expect("jitter");
@@ -950,7 +920,7 @@ public final class LinkTraining {
 
         private void parseLane() {
             begin(link.lanes.count() >= MAX_LANES);
-            String name = newName(link.lanes.numberOf(text, start, end));
+            String name = newName(link.lanes.numberOf(token));
             expect("skew");
             int skew = number(0, 4000);
             expect("width");
@@ -959,26 +929,19 @@ public final class LinkTraining {
             int vref = number(0, link.vrefs - 1);
             expect("slope");
             int slope = number(0, 200);
-            int drift = is("drift") ? drift() : 0;
+            boolean drifts = takes("drift");
+            boolean isMinus = drifts && takes("minus");
+            int drift = drifts ? number(0, 50) : 0;
             expect(";");
             if (code == 0) {
-                link.lanes.add(new Lane(name, skew, width, vref, slope, drift));
+                link.lanes.add(new Lane(name, skew, width, vref, slope, isMinus ? -drift : drift));
             }
-        }
-
-        private int drift() {
-            next();
-            if (is("minus")) {
-                next();
-                return -number(0, 50);
-            }
-            return number(0, 50);
         }
 
         private void parsePattern() {
             begin(link.patterns.count() >= MAX_PATTERNS);
-            String name = newName(link.patterns.numberOf(text, start, end));
-            int count = end - start;
+            String name = newName(link.patterns.numberOf(token));
+            int count = token.length();
             int digits = digits();
             next();
             expect(";");
@@ -1030,21 +993,28 @@ public final class LinkTraining {
             next();
         }
 
-        private void expect(String token) {
-            if (!is(token)) {
+        private void expect(String due) {
+            if (!takes(due)) {
                 fail(MISPLACED);
             }
+        }
+
+        private boolean takes(String word) {
+            if (!is(word)) {
+                return false;
+            }
             next();
+            return true;
         }
 
         private int number(int low, int high) {
-            if (start >= length || !isDigit(text[start])) {
+            if (token.isEmpty() || !isDigit(token.charAt(0))) {
                 fail(MISPLACED);
                 return low;
             }
             int value = 0;
-            for (int i = start; i < end; i++) {
-                value = Math.min(10 * value + (text[i] - '0'), HUGE);
+            for (int i = 0; i < token.length(); i++) {
+                value = Math.min(10 * value + (token.charAt(i) - '0'), HUGE);
             }
             if (value < low || value > high) {
                 fail(OUT_OF_RANGE);
@@ -1055,16 +1025,17 @@ public final class LinkTraining {
         }
 
         private int digits() {
-            if (end - start > MAX_BITS || start >= end) {
+            if (token.isEmpty() || token.length() > MAX_BITS) {
                 fail(MISPLACED);
                 return 0;
             }
             int digits = 0;
-            for (int i = start; i < end; i++) {
-                if (text[i] != '0' && text[i] != '1') {
+            for (int i = 0; i < token.length(); i++) {
+                char digit = token.charAt(i);
+                if (digit != '0' && digit != '1') {
                     fail(MISPLACED);
                 } else {
-                    digits |= (text[i] - '0') << (i - start);
+                    digits |= (digit - '0') << i;
                 }
             }
             return digits;
@@ -1076,17 +1047,14 @@ public final class LinkTraining {
             if (bearer != NONE) {
                 fail(WRONG_NAME);
             }
-            StringBuilder name = new StringBuilder();
-            for (int i = start; i < end && code == 0; i++) {
-                name.append(text[i]);
-            }
+            String name = token;
             next();
-            return name.toString();
+            return name;
         }
 
         private int rateHere() {
             requireName();
-            int rate = link.rates.numberOf(text, start, end);
+            int rate = link.rates.numberOf(token);
             if (rate == NONE) {
                 fail(WRONG_NAME);
             }
@@ -1094,24 +1062,24 @@ public final class LinkTraining {
         }
 
         private void requireName() {
-            boolean isWord = start < length && isLetter(text[start]);
-            if (!isWord || end - start > MAX_NAME || isKeyword()) {
+            boolean isWord = !token.isEmpty() && isLetter(token.charAt(0));
+            if (!isWord || token.length() > MAX_NAME || isKeyword(token)) {
                 fail(MISPLACED);
             }
         }
 
-        private boolean isKeyword() {
-            return is("link") || is("step") || is("taps") || is("vrefs")
-                    || is("rate") || is("period") || is("jitter")
-                    || is("lane") || is("skew") || is("width") || is("vref") || is("slope")
-                    || is("drift") || is("minus") || is("pattern")
-                    || is("stress") || is("run") || is("change")
-                    || is("margin") || is("time") || is("volts")
-                    || is("fallback") || is("to");
+        private static boolean isKeyword(String word) {
+            return word.equals("link") || word.equals("step") || word.equals("taps") || word.equals("vrefs")
+                    || word.equals("rate") || word.equals("period") || word.equals("jitter")
+                    || word.equals("lane") || word.equals("skew") || word.equals("width") || word.equals("vref")
+                    || word.equals("slope") || word.equals("drift") || word.equals("minus")
+                    || word.equals("pattern") || word.equals("stress") || word.equals("run")
+                    || word.equals("change") || word.equals("margin") || word.equals("time")
+                    || word.equals("volts") || word.equals("fallback") || word.equals("to");
         }
 
-        private boolean is(String token) {
-            return isSame(token, text, start, end);
+        private boolean is(String word) {
+            return token.equals(word);
         }
 
         private void fail(int why) {
@@ -1123,18 +1091,19 @@ public final class LinkTraining {
 
         private void next() {
             start = end;
-            while (start < length && (text[start] == ' ' || text[start] == '\n')) {
+            while (start < text.length() && (text.charAt(start) == ' ' || text.charAt(start) == '\n')) {
                 start++;
             }
             end = start;
-            if (start < length) {
+            boolean isWord = start < text.length() && isLetter(text.charAt(start));
+            boolean isNumber = start < text.length() && isDigit(text.charAt(start));
+            signs.setLength(0);
+            while (end < text.length() && (end == start || isWord && isLetter(text.charAt(end))
+                    || isNumber && isDigit(text.charAt(end)))) {
+                signs.append(text.charAt(end));
                 end++;
-                boolean isWord = isLetter(text[start]);
-                boolean isNumber = isDigit(text[start]);
-                while (end < length && (isWord && isLetter(text[end]) || isNumber && isDigit(text[end]))) {
-                    end++;
-                }
             }
+            token = signs.toString();
         }
     }
 
@@ -1312,7 +1281,7 @@ public final class LinkTraining {
         }
 
         boolean startsEye(int tap, int vref) {
-            return open(tap, vref) && !sharesEye(tap, tap - 1, vref);
+            return open(tap, vref) && !(open(tap - 1, vref) && bits[tap - 1] == bits[tap]);
         }
 
         int startOfEye(int index, int vref) {

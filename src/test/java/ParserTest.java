@@ -94,6 +94,7 @@ public final class ParserTest {
         refused(LINK + LANE + "lane |l skew 0", 3);
         taken(LINK + RATE + PATTERN + "lane l skew 4000 width 1000 vref 2 slope 200 drift minus 50;", 1);
         taken(LINK + "rate r period 2000 jitter 200;" + PATTERN + "lane l skew 0 width 1 vref 0 slope 0 drift 0;", 1);
+        taken(LINK + RATE + PATTERN + "lane l skew 0 width 1 vref 0 slope 0 drift minus 0;", 1);
         refused(LINK + "pattern p |2;", 1);
         refused(LINK + "pattern p |012;", 1);
         refused(LINK + "pattern p |a;", 1);
@@ -119,7 +120,7 @@ public final class ParserTest {
         refused(LINK + "rate |7 period 100 jitter 0;", 1);
         refused(LINK + "rate |; period 100 jitter 0;", 1);
         refused(LINK + "rate f|1 period 100 jitter 0;", 1);
-        for (String name : new String[] {"abcdef", "a", "tap", "rates", "volt", "n", "is", "name", "toto", "t"}) {
+        for (String name : new String[] {"abcdef", "a", "az", "zebra", "tap", "rates", "volt", "n", "is", "name", "toto", "t"}) {
             taken(LINK + LANE + PATTERN + "rate " + name + " period 100 jitter 0;", 1);
         }
         taken(LINK + "rate x period 100 jitter 0;lane x skew 0 width 800 vref 0 slope 0;pattern x 01;", 1);

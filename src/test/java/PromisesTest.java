@@ -170,6 +170,8 @@ public final class PromisesTest {
         LinkTraining x = Feed.loaded(Links.TWO);
         Check.same(17, "offset(0, 0)", x.offset(0, 0), -50);
         Check.same(17, "offset(1, 31)", x.offset(1, 31), 160);
+        x.setTemperature(1250);
+        Check.same(17, "without a drift at 1250", x.offset(1, 31), 160);
         LinkTraining cold = oneLane("period 100 jitter 0", "skew 4000 width 1 vref 0 slope 0 drift 10");
         cold.setTemperature(-399);
         Check.same(17, "drift 10 at -399", cold.offset(0, 1), 1 - (4000 - 39));
@@ -288,6 +290,9 @@ public final class PromisesTest {
                 + "lane l skew 50 width 800 vref 0 slope 0;pattern q 01;pattern p 0;stress run 0 change 5;");
         // The taps that fail now fail the first pattern: 2 and 8 take one test each.
         Check.same(31, "with the harder pattern first", turned.edgeTests(0, 5, 0), 6);
+        LinkTraining fine = oneLane("period 100 jitter 0", "skew 51 width 1000 vref 0 slope 0");
+        Check.same(29, "with n = 50", fine.firstEdge(0, 100, 0), 51);
+        Check.same(30, "with n = 50", fine.lastEdge(0, 20, 0), 69);
         LinkTraining coarse = Feed.loaded("link step 50 taps 8 vrefs 1;rate r period 120 jitter 0;"
                 + "lane l skew 0 width 1000 vref 0 slope 0;pattern p 0;");
         Check.same(29, "with n = 1", coarse.firstEdge(0, 5, 0), 5);
@@ -323,6 +328,23 @@ public final class PromisesTest {
         Check.same(34, "100 / 7 rounded down", wide.score(0, 20, 0), 14);
         // At v = 2 the half is 599 and the eye is taps 9 to 31: 100 * 550 / 1999 is 27, 100 * 5 / 7 is 71.
         Check.same(34, "100 * 550 / 1999 rounded down", wide.score(0, 20, 2), 27);
+        String seven = "link step 10 taps 32 vrefs 7;rate f period 100 jitter 0;pattern p 01;"
+                + "lane a skew 50 width 400 vref 1 slope 10;";
+        LinkTraining low = Feed.loaded(seven);
+        // Half 20 - 10 * |v - 1|: at phase 0 it works at the voltages 0 to 3.
+        Check.same(33, "no voltage above", low.voltageMargin(0, 5, 2), 1);
+        Check.same(33, "no voltage below 0", low.voltageMargin(0, 5, 1), 1);
+        LinkTraining high = Feed.loaded(seven.replace("vref 1", "vref 5"));
+        Check.same(33, "no voltage below", high.voltageMargin(0, 5, 4), 1);
+        Check.same(33, "no voltage above 6", high.voltageMargin(0, 5, 5), 1);
+        LinkTraining even = Feed.loaded("link step 50 taps 64 vrefs 7;rate r period 1999 jitter 0;"
+                + "lane l skew 1000 width 1000 vref 0 slope 0;pattern p 0;");
+        Check.same(34, "300 / 7 rounded down", even.score(0, 20, 1), 42);
+        Check.same(34, "100 / 5", Feed.loaded("link step 50 taps 64 vrefs 5;rate r period 1999 jitter 0;"
+                + "lane l skew 1000 width 1000 vref 0 slope 0;pattern p 0;").score(0, 20, 4), 20);
+        Check.same(34, "100 * 950 / 1910 rounded down", Feed.loaded("link step 50 taps 64 vrefs 1;"
+                + "rate r period 1910 jitter 0;lane l skew 1000 width 1000 vref 0 slope 0;pattern p 0;")
+                .score(0, 20, 0), 49);
     }
 
     private static void best() {
@@ -352,6 +374,55 @@ public final class PromisesTest {
         Check.same(36, "volts 2 needed of 3 voltages", tooMany.bestVref(0, 0), NONE);
     }
 
+    /** A lane that works at one reference voltage alone, the first or the last one. */
+    private static void outerVoltages() {
+        for (int vref = 0; vref < 3; vref += 2) {
+            LinkTraining x = Feed.loaded("link step 10 taps 32 vrefs 3;rate f period 100 jitter 5;"
+                    + "lane a skew 50 width 800 vref " + vref + " slope 40;pattern p 01;");
+            Check.same(36, "the outer voltage", x.bestVref(0, 0), vref);
+            Check.same(35, "at the outer voltage", x.bestTap(0, 0), 5);
+            Check.same(37, "at the outer voltage", x.scoreOf(0), 30);
+            Check.same(38, "at the outer voltage", x.trainableBits(), 3);
+            Check.same(39, "at the outer voltage", x.scoreAt(0), 30);
+            Check.same(43, "at the outer voltage", x.greatestMargin(), 30);
+            Check.same(44, "the outer voltage", x.sharedVref(1), vref);
+            Check.same(26, "at the outer voltage", x.eyeArea(0, 0), 7);
+            Check.same(28, "at the outer voltage", x.eyeHeight(0, 5), 1);
+            Check.same(47, "at the outer voltage", x.train(), 30);
+            Check.same(53, "the outer voltage", x.setting(0, 1), vref);
+            Check.same(49, "at the outer voltage", x.retrain(0), 30);
+        }
+    }
+
+    /** Bits that a lane samples at its first or its last tap alone, or in part. */
+    private static void outerBits() {
+        String rest = "rate f period 100 jitter 0;pattern p 01;";
+        LinkTraining first = Feed.loaded("link step 10 taps 30 vrefs 1;" + rest
+                + "lane a skew 60 width 1000 vref 0 slope 0;");
+        Check.same(38, "a bit of the first tap alone", first.trainableBits(), 4);
+        Check.same(37, "a bit of the first tap alone", first.scoreOf(-1), 0);
+        LinkTraining last = Feed.loaded("link step 10 taps 31 vrefs 1;" + rest
+                + "lane a skew 50 width 1000 vref 0 slope 0;");
+        Check.same(38, "a bit of the last tap alone", last.trainableBits(), 4);
+        Check.same(35, "a bit of the last tap alone", last.bestTap(0, 3), 30);
+        LinkTraining high = Feed.loaded("link step 10 taps 14 vrefs 1;" + rest
+                + "lane a skew 90 width 1000 vref 0 slope 0;");
+        Check.same(43, "the highest bit is the widest", high.greatestMargin(), 40);
+        Check.same(47, "the highest bit is the best", high.train(), 40);
+        Check.same(52, "the highest bit", high.trainedBit(), 0);
+        LinkTraining low = Feed.loaded("link step 10 taps 14 vrefs 1;" + rest
+                + "lane a skew 50 width 1000 vref 0 slope 0;");
+        Check.same(43, "the lowest bit is the widest", low.greatestMargin(), 40);
+        Check.same(47, "the lowest bit is the best", low.train(), 40);
+        // Lane a has bit -1 at taps 0 to 3, lane b at taps 4 to 13; no other bit is common.
+        LinkTraining part = Feed.loaded("link step 10 taps 14 vrefs 1;" + rest
+                + "lane a skew 90 width 1000 vref 0 slope 0;lane b skew 190 width 1000 vref 0 slope 0;");
+        Check.same(43, "the common bit alone", part.greatestMargin(), 10);
+        Check.same(38, "the common bit alone", part.trainableBits(), 1);
+        Check.same(47, "the common bit alone", part.train(), 10);
+        Check.same(52, "the common bit alone", part.trainedBit(), -1);
+    }
+
     private static void bitScores() {
         LinkTraining x = Feed.loaded(Links.TWO);
         Check.same(37, "scoreOf(0)", x.scoreOf(0), 30);
@@ -374,6 +445,12 @@ public final class PromisesTest {
             + "rate b period 100 jitter 60;rate c period 150 jitter 0;rate d period 150 jitter 0;"
             + "lane l skew 100 width 800 vref 0 slope 0;pattern p 01;";
 
+    /** The first three of the four rates cannot be trained. */
+    private static final String CHAIN = "link step 10 taps 32 vrefs 1;rate a period 100 jitter 60;"
+            + "rate b period 101 jitter 60;rate c period 102 jitter 60;rate d period 160 jitter 0;"
+            + "lane l skew 100 width 800 vref 0 slope 0;pattern p 01;"
+            + "fallback a to b;fallback b to c;fallback c to d;fallback d to a;";
+
     private static void rates() {
         LinkTraining x = Feed.loaded(RATES + "fallback b to d;fallback d to a;fallback a to b;");
         // Rate a: half 80, bit 0 at taps 2 to 18; rates c and d: half 60, bit 0 at taps 4 to 16.
@@ -383,6 +460,7 @@ public final class PromisesTest {
         Check.same(40, "fastestRate", x.fastestRate(), 2);
         Check.same(40, "fastestRate of none", Feed.loaded(RATES.replace("width 800", "width 1")
                 .replace("jitter 0", "jitter 9")).fastestRate(), NONE);
+        Check.same(40, "the first one", Feed.loaded(Links.TWO).fastestRate(), 0);
         Check.same(41, "fallbackFrom(0)", x.fallbackFrom(0), 0);
         Check.same(41, "fallbackFrom(1)", x.fallbackFrom(1), 3);
         Check.same(41, "without a fallback", Feed.loaded(RATES).fallbackFrom(1), NONE);
@@ -392,6 +470,8 @@ public final class PromisesTest {
             Check.same(41, "round " + rate, round.fallbackFrom(rate), NONE);
         }
         Check.same(39, "rate stays", x.rate(), 0);
+        Check.same(41, "a fallback to rate 0", Feed.loaded(RATES + "fallback b to a;").fallbackFrom(1), 0);
+        Check.same(41, "through all rates", Feed.loaded(CHAIN).fallbackFrom(0), 3);
         LinkTraining warm = Feed.loaded(Links.DRIFT);
         Check.same(39, "scoreAt(1) at 0", warm.scoreAt(1), 22);
         warm.setTemperature(920);
@@ -417,6 +497,10 @@ public final class PromisesTest {
         LinkTraining needed = Feed.loaded(Links.TWO + "margin time 100 volts 1;");
         Check.same(43, "the required one does not count", needed.greatestMargin(), 30);
         Check.same(43, "the voltages do", Feed.loaded(Links.TWO + "margin time 0 volts 2;").greatestMargin(), NONE);
+        Check.same(43, "by the first lane", Feed.loaded(Links.TWO.replace("skew 50 width 800", "skew 50 width 600"))
+                .greatestMargin(), 20);
+        Check.same(43, "by the last lane", Feed.loaded(Links.TWO.replace("skew 150 width 800", "skew 150 width 600"))
+                .greatestMargin(), 20);
         LinkTraining wide = Feed.loaded("link step 49 taps 64 vrefs 1;rate r period 2000 jitter 0;"
                 + "lane l skew 1100 width 1000 vref 0 slope 0;pattern p 0;");
         Check.same(43, "500 at the most", wide.greatestMargin(), 500);
@@ -427,6 +511,7 @@ public final class PromisesTest {
         Check.same(44, "sharedVref(-1)", apart.sharedVref(-1), NONE);
         Check.same(44, "sharedVref(100)", apart.sharedVref(100), NONE);
         LinkTraining alike = Feed.loaded(Links.TWO.replace("slope 10", "slope 0"));
+        Check.same(44, "with a score of 0", point.sharedVref(0), 1);
         Check.same(44, "among equals the lowest", alike.sharedVref(0), 0);
         Check.same(44, "by the required margins", Feed.loaded(Links.TWO.replace("slope 10", "slope 0")
                 + "margin time 0 volts 1;").sharedVref(0), 1);
@@ -458,6 +543,24 @@ public final class PromisesTest {
         // Bits -3 and -2 have whole eyes; -4 has a single tap and 0 too few.
         Check.same(47, "train", below.train(), 40);
         Check.same(52, "a negative bit", below.trainedBit(), -3);
+    }
+
+    private static void eightLanes() {
+        StringBuilder text = new StringBuilder("link step 10 taps 32 vrefs 1;rate f period 100 jitter 5;pattern p 01;");
+        for (int i = 0; i < 8; i++) {
+            text.append("lane ").append((char) ('a' + i)).append(" skew ").append(50 + 10 * i)
+                    .append(" width 800 vref 0 slope 0;");
+        }
+        LinkTraining x = Feed.loaded(text.toString());
+        Check.same(47, "train", x.train(), 30);
+        for (int i = 0; i < 8; i++) {
+            Check.same(53, "tap of lane " + i, x.setting(i, 0), 5 + i);
+        }
+        Check.same(54, "failing", x.failing(), 0);
+        Check.same(61, "writeSettings", x.writeSettings(), 8 * 6 + 3);
+        x.set(7, 0, 0);
+        Check.same(54, "the last one fails", x.failing(), 128);
+        Check.same(55, "the last one is the weakest", x.weakestLane(), 7);
     }
 
     private static void failedTraining() {
@@ -502,6 +605,13 @@ public final class PromisesTest {
         z.setRate(1);
         Check.same(48, "a fallback to itself", z.trainWithFallback(), NONE);
         Check.same(48, "tried once", z.logSize(), 2);
+        LinkTraining toFirst = Feed.loaded(RATES + "fallback b to a;");
+        toFirst.setRate(1);
+        Check.same(48, "a fallback to rate 0", toFirst.trainWithFallback(), 0);
+        LinkTraining chain = Feed.loaded(CHAIN);
+        Check.same(48, "through all rates", chain.trainWithFallback(), 3);
+        Check.same(48, "an attempt for each", chain.logSize(), 4);
+        Check.same(48, "and the last one present", chain.rate(), 3);
     }
 
     private static void trained() {
@@ -545,6 +655,17 @@ public final class PromisesTest {
         Check.same(56, "k = 6", x.receive(0, 0), 0b0010110);
         Check.same(56, "16 ones", x.receive(0, 1), 65535);
         Check.same(56, "16 digits", x.receive(0, 2), 1 << 9);
+        LinkTraining strict = Feed.loaded("link step 1 taps 128 vrefs 9;rate r period 101 jitter 3;"
+                + "lane l skew 64 width 777 vref 4 slope 7;pattern p 01;pattern q 0011;stress run 2 change 1;");
+        strict.train();
+        // Halves 34 (p) and 32 (q).
+        strict.set(0, 64 + 34, 4);
+        Check.same(56, "the phase is half the eye", strict.receive(0, 0), 2);
+        Check.same(56, "the phase is more than half", strict.receive(0, 1), NONE);
+        strict.set(0, 64 + 35, 4);
+        Check.same(56, "the phase is half + 1", strict.receive(0, 0), NONE);
+        strict.set(0, 64 - 32, 4);
+        Check.same(56, "the phase is half the eye, below", strict.receive(0, 1), 12);
     }
 
     private static void drift() {
@@ -570,28 +691,41 @@ public final class PromisesTest {
         // Lane l, drift 50, half 10: its offset at its tap is -(50 * t / 100), the phase 10 holds up to t = 21.
         Check.same(57, "the nearest of the lanes, upwards", back.temperatureLimit(true), 21);
         Check.same(57, "the nearest of the lanes, downwards", back.temperatureLimit(false), -21);
+        LinkTraining end = oneLane("period 100 jitter 40", "skew 64 width 1000 vref 0 slope 0 drift 50");
+        end.setTemperature(1240);
+        end.train();
+        // Shift 620, and 625 at 1250: a phase of -6 becomes -11 there alone.
+        end.set(0, end.setting(0, 0) - end.phase(0, end.setting(0, 0)) - 6, 0);
+        Check.same(57, "all but the highest", end.temperatureLimit(true), 1249);
+        end.setTemperature(-390);
+        end.train();
+        // Shift -195, and -200 at -400: a phase of 6 becomes 11 there alone.
+        end.set(0, end.setting(0, 0) - end.phase(0, end.setting(0, 0)) + 6, 0);
+        Check.same(57, "all but the lowest", end.temperatureLimit(false), -399);
+        end.setTemperature(-399);
+        Check.same(57, "from the limit itself", end.temperatureLimit(false), -399);
     }
 
     private static void logLimit() {
-        LinkTraining x = Feed.loaded(RATES);
-        x.setRate(1);
-        x.train();
-        x.setRate(2);
-        for (int i = 0; i < 29; i++) {
-            x.train();
+        // Scores 40, -1, 40 and 37 of the rates 0 to 3.
+        LinkTraining x = Feed.loaded("link step 10 taps 32 vrefs 1;rate a period 200 jitter 0;"
+                + "rate b period 100 jitter 60;rate c period 150 jitter 0;rate d period 160 jitter 0;"
+                + "lane l skew 100 width 800 vref 0 slope 0;pattern p 01;");
+        int[] scores = {40, NONE, 40, 37};
+        for (int i = 0; i < 33; i++) {
+            x.setRate(i * i % 7 % 4);
+            Check.same(47, "train " + i, x.train(), scores[i * i % 7 % 4]);
+            Check.same(58, "logSize", x.logSize(), Math.min(i + 1, 30));
         }
-        Check.same(58, "logSize", x.logSize(), 30);
-        Check.same(59, "the oldest one", x.logEntry(0, 0), 1);
-        Check.same(59, "the oldest one", x.logEntry(0, 1), -1);
+        for (int i = 0; i < 30; i++) {
+            int rate = (i + 3) * (i + 3) % 7 % 4;
+            Check.same(59, "rate of " + i, x.logEntry(i, 0), rate);
+            Check.same(59, "score of " + i, x.logEntry(i, 1), scores[rate]);
+        }
         Check.refuses(59, "logEntry(30, 0)", x, IndexOutOfBoundsException.class, y -> y.logEntry(30, 0));
-        x.setRate(0);
-        x.train();
-        Check.same(58, "logSize", x.logSize(), 30);
-        Check.same(59, "the oldest one is gone", x.logEntry(0, 0), 2);
-        Check.same(59, "the latest one", x.logEntry(29, 0), 0);
-        Check.same(59, "the one before", x.logEntry(28, 0), 2);
         x.undo();
-        Check.same(60, "the oldest one is back", x.logEntry(0, 0), 1);
+        Check.same(60, "the oldest one is back", x.logEntry(0, 0), 2 * 2 % 7 % 4);
+        Check.same(60, "the latest one is gone", x.logEntry(29, 0), 31 * 31 % 7 % 4);
     }
 
     private static void undoing() {
@@ -692,10 +826,13 @@ public final class PromisesTest {
         edges();
         margins();
         best();
+        outerVoltages();
+        outerBits();
         bitScores();
         rates();
         whatIf();
         training();
+        eightLanes();
         failedTraining();
         withFallback();
         trained();
