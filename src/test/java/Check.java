@@ -23,8 +23,15 @@ final class Check {
         try {
             return call.on(x);
         } catch (RuntimeException e) {
-            return e.getClass().getName();
+            return thrown(e, LinkTraining.class);
         }
+    }
+
+    /** The exception's name; with a remark if not the program's own throw but the Java library threw it. */
+    static String thrown(Throwable e, Class<?> thrower) {
+        StackTraceElement[] trace = e.getStackTrace();
+        boolean own = trace.length > 0 && trace[0].getClassName().startsWith(thrower.getName());
+        return e.getClass().getName() + (own ? "" : ", not by its own throw");
     }
 
     static void refuses(int promise, String what, LinkTraining x, Class<? extends RuntimeException> due, Call call) {

@@ -61,7 +61,7 @@ public final class OracleTest {
             Object got = method.invoke(target, arguments);
             return got == null ? "nothing" : got;
         } catch (InvocationTargetException e) {
-            return "throws " + e.getCause().getClass().getName();
+            return "throws " + Check.thrown(e.getCause(), target.getClass());
         }
     }
 
