@@ -3,6 +3,8 @@ import java.util.HashMap;
 import java.util.List;
 import java.util.Map;
 import java.util.NoSuchElementException;
+import java.util.Set;
+import java.util.TreeSet;
 
 /**
  * The paragraph EXCEPTIONS of the document: every method with every mixture of inputs just inside and just outside of
@@ -17,99 +19,7 @@ public final class ExceptionBoundsTest {
 
     private enum Condition { NEW, LOADED, SHUT, TRAINED, FULL }
 
-    /** What a call needs besides its inputs. */
-    private enum Need { NOTHING, RATE, WORKING, TRAINED, HOLDING }
-
-    private interface Method {
-        Object on(LinkTraining x, int[] in);
-    }
-
-    private record Entry(String name, Need need, String[] inputs, Method method) { }
-
-    private static final List<Entry> ENTRIES = new ArrayList<>();
-
     private ExceptionBoundsTest() { }
-
-    private static void add(String spec, Need need, Method method) {
-        String[] words = spec.split(" ");
-        ENTRIES.add(new Entry(words[0], need, java.util.Arrays.copyOfRange(words, 1, words.length), method));
-    }
-
-    private static Object cut(LinkTraining x, int length) {
-        x.truncate(length);
-        return true;
-    }
-
-    private static void changes() {
-        add("truncate length", Need.NOTHING, (x, in) -> cut(x, in[0]));
-        add("find kind", Need.NOTHING, (x, in) -> x.find(in[0]));
-        add("setRate rate", Need.NOTHING, (x, in) -> x.setRate(in[0]));
-        add("setTemperature temperature", Need.NOTHING, (x, in) -> x.setTemperature(in[0]));
-        add("train", Need.RATE, (x, in) -> x.train());
-        add("trainWithFallback", Need.RATE, (x, in) -> x.trainWithFallback());
-        add("retrain lane", Need.TRAINED, (x, in) -> x.retrain(in[0]));
-        add("set lane tap vref", Need.TRAINED, (x, in) -> x.set(in[0], in[1], in[2]));
-        add("writeSettings", Need.TRAINED, (x, in) -> x.writeSettings());
-        add("load", Need.NOTHING, (x, in) -> x.load());
-    }
-
-    private static void plainQuestions() {
-        add("errorCode", Need.NOTHING, (x, in) -> x.errorCode());
-        add("errorPosition", Need.NOTHING, (x, in) -> x.errorPosition());
-        add("rateCount", Need.NOTHING, (x, in) -> x.rateCount());
-        add("laneCount", Need.NOTHING, (x, in) -> x.laneCount());
-        add("patternCount", Need.NOTHING, (x, in) -> x.patternCount());
-        add("rate", Need.NOTHING, (x, in) -> x.rate());
-        add("temperature", Need.NOTHING, (x, in) -> x.temperature());
-        add("worstPattern", Need.NOTHING, (x, in) -> x.worstPattern());
-        add("fastestRate", Need.NOTHING, (x, in) -> x.fastestRate());
-        add("isTrained", Need.NOTHING, (x, in) -> x.isTrained());
-        add("logSize", Need.NOTHING, (x, in) -> x.logSize());
-        add("longestRun pattern", Need.NOTHING, (x, in) -> x.longestRun(in[0]));
-        add("changes pattern", Need.NOTHING, (x, in) -> x.changes(in[0]));
-        add("penalty pattern", Need.NOTHING, (x, in) -> x.penalty(in[0]));
-        add("offset lane tap", Need.NOTHING, (x, in) -> x.offset(in[0], in[1]));
-        add("scoreAt rate", Need.NOTHING, (x, in) -> x.scoreAt(in[0]));
-        add("fallbackFrom rate", Need.NOTHING, (x, in) -> x.fallbackFrom(in[0]));
-        add("logEntry entry what", Need.NOTHING, (x, in) -> x.logEntry(in[0], in[1]));
-        add("outputByte byte", Need.NOTHING, (x, in) -> x.outputByte(in[0]));
-    }
-
-    private static void questionsOfARate() {
-        add("bitAt lane tap", Need.RATE, (x, in) -> x.bitAt(in[0], in[1]));
-        add("phase lane tap", Need.RATE, (x, in) -> x.phase(in[0], in[1]));
-        add("half lane vref pattern", Need.RATE, (x, in) -> x.half(in[0], in[1], in[2]));
-        add("test lane tap vref pattern", Need.RATE, (x, in) -> x.test(in[0], in[1], in[2], in[3]));
-        add("works lane tap vref", Need.RATE, (x, in) -> x.works(in[0], in[1], in[2]));
-        add("firstFailure lane tap vref", Need.RATE, (x, in) -> x.firstFailure(in[0], in[1], in[2]));
-        add("eyeCount lane vref", Need.RATE, (x, in) -> x.eyeCount(in[0], in[1]));
-        add("eye lane vref eye what3", Need.RATE, (x, in) -> x.eye(in[0], in[1], in[2], in[3]));
-        add("eyeArea lane bit", Need.RATE, (x, in) -> x.eyeArea(in[0], in[1]));
-        add("eyeFill lane bit", Need.RATE, (x, in) -> x.eyeFill(in[0], in[1]));
-        add("eyeHeight lane tap", Need.RATE, (x, in) -> x.eyeHeight(in[0], in[1]));
-        add("firstEdge lane tap vref", Need.WORKING, (x, in) -> x.firstEdge(in[0], in[1], in[2]));
-        add("lastEdge lane tap vref", Need.WORKING, (x, in) -> x.lastEdge(in[0], in[1], in[2]));
-        add("edgeTests lane tap vref", Need.WORKING, (x, in) -> x.edgeTests(in[0], in[1], in[2]));
-        add("timeMargin lane tap vref", Need.RATE, (x, in) -> x.timeMargin(in[0], in[1], in[2]));
-        add("voltageMargin lane tap vref", Need.RATE, (x, in) -> x.voltageMargin(in[0], in[1], in[2]));
-        add("score lane tap vref", Need.RATE, (x, in) -> x.score(in[0], in[1], in[2]));
-        add("bestTap lane bit", Need.RATE, (x, in) -> x.bestTap(in[0], in[1]));
-        add("bestVref lane bit", Need.RATE, (x, in) -> x.bestVref(in[0], in[1]));
-        add("scoreOf bit", Need.RATE, (x, in) -> x.scoreOf(in[0]));
-        add("trainableBits", Need.RATE, (x, in) -> x.trainableBits());
-        add("scoreWithout pattern", Need.RATE, (x, in) -> x.scoreWithout(in[0]));
-        add("greatestMargin", Need.RATE, (x, in) -> x.greatestMargin());
-        add("sharedVref bit", Need.RATE, (x, in) -> x.sharedVref(in[0]));
-    }
-
-    private static void questionsOfTraining() {
-        add("trainedBit", Need.TRAINED, (x, in) -> x.trainedBit());
-        add("setting lane what", Need.TRAINED, (x, in) -> x.setting(in[0], in[1]));
-        add("failing", Need.TRAINED, (x, in) -> x.failing());
-        add("weakestLane", Need.TRAINED, (x, in) -> x.weakestLane());
-        add("receive lane pattern", Need.TRAINED, (x, in) -> x.receive(in[0], in[1]));
-        add("temperatureLimit flag", Need.HOLDING, (x, in) -> x.temperatureLimit(in[0] == 1));
-    }
 
     // The states: two rates, two lanes, two patterns, 32 taps, 3 voltages; the input holds a text that loads.
 
@@ -171,7 +81,7 @@ public final class ExceptionBoundsTest {
         };
     }
 
-    private static boolean meets(Need need, Condition condition) {
+    private static boolean meets(Methods.Need need, Condition condition) {
         boolean isTrained = condition == Condition.TRAINED || condition == Condition.FULL;
         return switch (need) {
             case NOTHING -> true;
@@ -182,15 +92,15 @@ public final class ExceptionBoundsTest {
     }
 
     /** The exception that is named first of all that apply; nothing if none does. */
-    private static String due(Entry entry, Condition condition, int[] in) {
+    private static String due(Methods.Entry entry, Condition condition, int[] in) {
         List<String> apply = new ArrayList<>();
         for (int i = 0; i < in.length; i++) {
-            int[] range = range(entry.inputs[i], condition);
+            int[] range = range(entry.inputs()[i], condition);
             if (in[i] < range[0] || in[i] > range[1]) {
-                apply.add(exceptionOf(entry.inputs[i]));
+                apply.add(exceptionOf(entry.inputs()[i]));
             }
         }
-        if (!meets(entry.need, condition)) {
+        if (!meets(entry.need(), condition)) {
             apply.add(STATE);
         }
         for (String first : new String[] {INDEX, ARGUMENT, STATE, ELEMENT}) {
@@ -203,11 +113,11 @@ public final class ExceptionBoundsTest {
 
     private static final Map<Condition, String> UNCHANGED = new HashMap<>();
 
-    private static void call(Entry entry, Condition condition, int[] in) {
+    private static void call(Methods.Entry entry, Condition condition, int[] in) {
         LinkTraining x = in(condition);
-        Object answer = Check.answer(x, y -> entry.method.on(y, in));
+        Object answer = Check.answer(x, y -> entry.method().on(y, in));
         String due = due(entry, condition, in);
-        String what = entry.name + java.util.Arrays.toString(in) + " when " + condition;
+        String what = entry.name() + java.util.Arrays.toString(in) + " when " + condition;
         Sentence.same(what, answer instanceof String ? answer : "", due);
         if (!due.isEmpty()) {
             String unchanged = UNCHANGED.computeIfAbsent(condition, c -> Look.through(in(c), inputLength(c)));
@@ -216,13 +126,13 @@ public final class ExceptionBoundsTest {
     }
 
     /** Every mixture of inputs from place to place on. */
-    private static void mixtures(Entry entry, Condition condition, int[] in, int place) {
+    private static void mixtures(Methods.Entry entry, Condition condition, int[] in, int place) {
         if (place == in.length) {
             call(entry, condition, in.clone());
             return;
         }
-        int[] range = range(entry.inputs[place], condition);
-        int[] tried = entry.inputs[place].equals("flag") ? range
+        int[] range = range(entry.inputs()[place], condition);
+        int[] tried = entry.inputs()[place].equals("flag") ? range
                 : new int[] {range[0] - 1, range[0], range[1], range[1] + 1};
         for (int value : tried) {
             in[place] = value;
@@ -231,14 +141,14 @@ public final class ExceptionBoundsTest {
     }
 
     /** The farthest inputs, one at a time; the others are just inside. */
-    private static void farthest(Entry entry, Condition condition) {
-        for (int place = 0; place < entry.inputs.length; place++) {
+    private static void farthest(Methods.Entry entry, Condition condition) {
+        for (int place = 0; place < entry.inputs().length; place++) {
             for (int far : new int[] {Integer.MIN_VALUE, Integer.MAX_VALUE}) {
-                int[] in = new int[entry.inputs.length];
+                int[] in = new int[entry.inputs().length];
                 for (int i = 0; i < in.length; i++) {
-                    in[i] = i == place ? far : range(entry.inputs[i], condition)[0];
+                    in[i] = i == place ? far : range(entry.inputs()[i], condition)[0];
                 }
-                if (!entry.inputs[place].equals("flag")) {
+                if (!entry.inputs()[place].equals("flag")) {
                     call(entry, condition, in);
                 }
             }
@@ -246,15 +156,21 @@ public final class ExceptionBoundsTest {
     }
 
     private static void everyMethod() {
-        changes();
-        plainQuestions();
-        questionsOfARate();
-        questionsOfTraining();
-        for (Entry entry : ENTRIES) {
-            Sentence.of(entry.name + ": the exceptions that the document names, the first one of several; a call that throws "
+        Sentence.of("every method of the face is in the table");
+        Set<String> table = new TreeSet<>(Set.of("append", "undo"));
+        Methods.all().forEach(entry -> table.add(entry.name()));
+        Set<String> face = new TreeSet<>();
+        for (java.lang.reflect.Method method : LinkTraining.class.getDeclaredMethods()) {
+            if (java.lang.reflect.Modifier.isPublic(method.getModifiers())) {
+                face.add(method.getName());
+            }
+        }
+        Sentence.same("the table", table, face);
+        for (Methods.Entry entry : Methods.all()) {
+            Sentence.of(entry.name() + ": the exceptions that the document names, the first one of several; a call that throws "
                     + "changes nothing");
             for (Condition condition : Condition.values()) {
-                mixtures(entry, condition, new int[entry.inputs.length], 0);
+                mixtures(entry, condition, new int[entry.inputs().length], 0);
                 farthest(entry, condition);
             }
         }
@@ -285,12 +201,12 @@ public final class ExceptionBoundsTest {
 
     /** Every method at inputs that are right only for a link. */
     private static void beforeALink(LinkTraining x, String when) {
-        for (Entry entry : ENTRIES) {
-            int[] in = new int[entry.inputs.length];
-            boolean isChange = entry.name.equals("load") || entry.name.equals("setTemperature") || entry.name.equals("find");
+        for (Methods.Entry entry : Methods.all()) {
+            int[] in = new int[entry.inputs().length];
+            boolean isChange = entry.name().equals("load") || entry.name().equals("setTemperature") || entry.name().equals("find");
             if (!isChange) {
-                Object answer = Check.answer(x, y -> entry.method.on(y, in));
-                Sentence.same(entry.name + " " + when, answer instanceof String ? answer : "",
+                Object answer = Check.answer(x, y -> entry.method().on(y, in));
+                Sentence.same(entry.name() + " " + when, answer instanceof String ? answer : "",
                         due(entry, Condition.NEW, in));
             }
         }

@@ -1,13 +1,10 @@
 /** Promises 4 to 6: what load() takes and refuses. In a text that is refused a bar stands before the wrong token. */
 public final class ParserTest {
-    private static final String LINK = "link step 10 taps 32 vrefs 3;";
-    private static final String RATE = "rate r period 100 jitter 0;";
-    private static final String LANE = "lane l skew 0 width 800 vref 0 slope 0;";
-    private static final String PATTERN = "pattern p 01;";
+    private static final String LINK = Links.LINK;
+    private static final String RATE = Links.RATE;
+    private static final String LANE = Links.LANE;
+    private static final String PATTERN = Links.PATTERN;
     private static final String ALL = LINK + RATE + LANE + PATTERN;
-    private static final String[] KEYWORDS = {"link", "step", "taps", "vrefs", "rate", "period", "jitter", "lane",
-        "skew", "width", "vref", "slope", "drift", "minus", "pattern", "stress", "run", "change", "margin", "time",
-        "volts", "fallback", "to"};
 
     private ParserTest() { }
 
@@ -111,7 +108,7 @@ public final class ParserTest {
     }
 
     private static void names() {
-        for (String keyword : KEYWORDS) {
+        for (String keyword : Links.KEYWORDS) {
             refused(LINK + "rate |" + keyword + " period 100 jitter 0;", 1);
             refused(ALL + "lane |" + keyword + " skew 0", 1);
             refused(ALL + "fallback |" + keyword + " to r;", 1);

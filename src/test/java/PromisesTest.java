@@ -133,33 +133,24 @@ public final class PromisesTest {
         Check.same(12, "temperature without a link", empty.temperature(), 3);
     }
 
-    private static LinkTraining patterns(String stress, String... bits) {
-        StringBuilder text = new StringBuilder("link step 1 taps 4 vrefs 1;rate r period 100 jitter 0;"
-                + "lane l skew 0 width 1000 vref 0 slope 0;").append(stress);
-        for (int i = 0; i < bits.length; i++) {
-            text.append("pattern ").append((char) ('a' + i)).append(' ').append(bits[i]).append(';');
-        }
-        return Feed.loaded(text.toString());
-    }
-
     private static void stress() {
         String[] bits = {"01", "1001", "0000", "1101111011111111", "110", "1"};
         int[] longest = {1, 2, 4, 10, 2, 1};
         int[] changes = {2, 2, 0, 4, 2, 0};
-        LinkTraining x = patterns("stress run 5 change 2;", bits);
-        LinkTraining plain = patterns("", bits);
+        LinkTraining x = Links.ofPatterns("stress run 5 change 2;", bits);
+        LinkTraining plain = Links.ofPatterns("", bits);
         for (int i = 0; i < bits.length; i++) {
             Check.same(13, bits[i], x.longestRun(i), longest[i]);
             Check.same(14, bits[i], x.changes(i), changes[i]);
             Check.same(15, bits[i], x.penalty(i), 5 * (longest[i] - 1) + 2 * changes[i]);
             Check.same(15, bits[i] + " without stress", plain.penalty(i), 0);
         }
-        Check.same(13, "0000000000000000", patterns("", "0000000000000000").longestRun(0), 16);
-        Check.same(13, "0111111111111111", patterns("", "0111111111111111").longestRun(0), 15);
-        Check.same(14, "0101010101010101", patterns("", "0101010101010101").changes(0), 16);
+        Check.same(13, "0000000000000000", Links.ofPatterns("", "0000000000000000").longestRun(0), 16);
+        Check.same(13, "0111111111111111", Links.ofPatterns("", "0111111111111111").longestRun(0), 15);
+        Check.same(14, "0101010101010101", Links.ofPatterns("", "0101010101010101").changes(0), 16);
         Check.same(16, "the worst", x.worstPattern(), 3);
         Check.same(16, "among equals", plain.worstPattern(), 0);
-        Check.same(16, "by changes", patterns("stress run 0 change 1;", "11", "01", "10").worstPattern(), 1);
+        Check.same(16, "by changes", Links.ofPatterns("stress run 0 change 1;", "11", "01", "10").worstPattern(), 1);
     }
 
     private static LinkTraining oneLane(String rate, String lane) {

@@ -6,22 +6,13 @@ public final class SignalBoundsTest {
 
     private SignalBoundsTest() { }
 
-    private static LinkTraining patterns(String stress, String... bits) {
-        StringBuilder text = new StringBuilder("link step 1 taps 4 vrefs 1;rate r period 100 jitter 0;"
-                + "lane l skew 0 width 1000 vref 0 slope 0;").append(stress);
-        for (int i = 0; i < bits.length; i++) {
-            text.append("pattern ").append((char) ('a' + i)).append(' ').append(bits[i]).append(';');
-        }
-        return Feed.loaded(text.toString());
-    }
-
     /** A lane whose taps are 1 ps apart. */
     private static LinkTraining fine(String rate, String lane, String rest) {
         return Feed.loaded("link step 1 taps 128 vrefs 9;rate r " + rate + ";lane l " + lane + ";" + rest);
     }
 
     private static void run(String bits, int longest, int changes) {
-        LinkTraining x = patterns("stress run 50 change 1;", bits);
+        LinkTraining x = Links.ofPatterns("stress run 50 change 1;", bits);
         Sentence.same("longestRun of " + bits, x.longestRun(0), longest);
         Sentence.same("changes of " + bits, x.changes(0), changes);
         Sentence.same("penalty of " + bits, x.penalty(0), 50 * (longest - 1) + changes);
@@ -80,21 +71,21 @@ public final class SignalBoundsTest {
             }
         }
         Sentence.of("Its penalty is R * (length of the longest run - 1) + C * changes");
-        LinkTraining most = patterns("stress run 50 change 50;", "0000000000000000", "0101010101010101", "1", "01");
+        LinkTraining most = Links.ofPatterns("stress run 50 change 50;", "0000000000000000", "0101010101010101", "1", "01");
         Sentence.same("16 equal bits", most.penalty(0), 750);
         Sentence.same("16 changes", most.penalty(1), 800);
         Sentence.same("one bit", most.penalty(2), 0);
         Sentence.same("two bits", most.penalty(3), 100);
         Sentence.same("the worst", most.worstPattern(), 1);
-        LinkTraining nothing = patterns("stress run 0 change 0;", "0000000000000000", "01");
+        LinkTraining nothing = Links.ofPatterns("stress run 0 change 0;", "0000000000000000", "01");
         Sentence.same("with R and C 0", nothing.penalty(0), 0);
         Sentence.of("worstPattern: the lowest number among equals; NONE if there are no patterns.");
         Sentence.same("no patterns", new LinkTraining().worstPattern(), NONE);
         Sentence.same("equal ones", nothing.worstPattern(), 0);
-        Sentence.same("one", patterns("", "0").worstPattern(), 0);
-        Sentence.same("the last of six", patterns("stress run 1 change 0;", "0", "0", "0", "0", "0", "00")
+        Sentence.same("one", Links.ofPatterns("", "0").worstPattern(), 0);
+        Sentence.same("the last of six", Links.ofPatterns("stress run 1 change 0;", "0", "0", "0", "0", "0", "00")
                 .worstPattern(), 5);
-        Sentence.same("the first of two worst", patterns("stress run 1 change 0;", "0", "00", "0", "11", "0", "1")
+        Sentence.same("the first of two worst", Links.ofPatterns("stress run 1 change 0;", "0", "00", "0", "11", "0", "1")
                 .worstPattern(), 1);
     }
 

@@ -7,14 +7,11 @@ public final class TextBoundsTest {
     private static final int NONE = LinkTraining.NONE;
     private static final int SPACES = 0x20202020;
 
-    private static final String LINK = "link step 10 taps 32 vrefs 3;";
-    private static final String RATE = "rate r period 100 jitter 0;";
-    private static final String LANE = "lane l skew 0 width 800 vref 0 slope 0;";
-    private static final String PATTERN = "pattern p 01;";
+    private static final String LINK = Links.LINK;
+    private static final String RATE = Links.RATE;
+    private static final String LANE = Links.LANE;
+    private static final String PATTERN = Links.PATTERN;
     private static final String ALL = LINK + RATE + LANE + PATTERN;
-    private static final String[] KEYWORDS = {"link", "step", "taps", "vrefs", "rate", "period", "jitter", "lane",
-        "skew", "width", "vref", "slope", "drift", "minus", "pattern", "stress", "run", "change", "margin", "time",
-        "volts", "fallback", "to"};
 
     private TextBoundsTest() { }
 
@@ -145,7 +142,7 @@ public final class TextBoundsTest {
             {ALL + "fallback ", " to r;"}, {ALL + "fallback r to ", ";"}};
         String[] wrong = {"abcdefg", "abcdefghijklmnopqrstuvwxyz", "7", "A", "_", "-", ";", "\u00e9", "A a"};
         for (String[] place : places) {
-            for (String keyword : KEYWORDS) {
+            for (String keyword : Links.KEYWORDS) {
                 Sentence.refusesText(place[0] + "|" + keyword + place[1], 1);
             }
             for (String name : wrong) {

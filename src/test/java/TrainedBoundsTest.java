@@ -355,6 +355,16 @@ public final class TrainedBoundsTest {
                 + "/" + rated.setting(1, 1), "0 5 7/2");
         rated.setRate(0);
         Sentence.same("setRate to the same rate, too", rated.isTrained(), false);
+        String[] links = {Links.OPEN, Links.TWO, Links.TWO + "lane c skew 0 width 800 vref 0 slope 0;"};
+        LinkTraining loads = new LinkTraining();
+        for (int i = 0; i < 13; i++) {
+            Sentence.same("load " + i, Feed.load(loads, links[i % 3]), 1 + i % 3);
+        }
+        for (int i = 11; i > 3; i--) {
+            Sentence.same("undo of load " + (i + 1), loads.undo(), i - 4);
+            Sentence.same("the lanes of load " + i, loads.laneCount(), 1 + i % 3);
+        }
+        Sentence.refuses("undo of load 4", loads, STATE, LinkTraining::undo);
     }
 
     private static void output() {

@@ -78,6 +78,7 @@ public final class TrainingBoundsTest {
         Sentence.same("100 / 16", scoreAt(10, 100, 16, 4, 0), 6);
         Sentence.same("300 / 16", scoreAt(10, 100, 16, 4, 14), 18);
         Sentence.same("500 / 16", scoreAt(10, 100, 16, 4, 2), 31);
+        Sentence.same("300 / 7", scoreAt(13, 1300, 7, 50, 1), 42);
         Sentence.same("700 / 16 is more than 40", scoreAt(10, 100, 16, 4, 3), 40);
         Sentence.same("100 / 2 is more than 40", scoreAt(10, 100, 2, 4, 0), 40);
         Sentence.same("a score of 0", scoreAt(10, 100, 1, 0, 0), 0);
@@ -353,6 +354,19 @@ public final class TrainingBoundsTest {
         Sentence.same("500 of 950", Feed.loaded("link step 50 taps 128 " + wide).greatestMargin(), 500);
         Sentence.same("whatever is required", needing(5, 500, 2).greatestMargin(), 30);
         Sentence.same("but the voltages", needing(5, 0, 3).greatestMargin(), NONE);
+
+        Sentence.of("scoreAt: the score that training at this rate would give; NONE if it would fail.");
+        LinkTraining rates = chain("ab", 51, 50, 0, 35);
+        int[] scores = {NONE, 0, 40, 10};
+        for (int rate = 0; rate < 4; rate++) {
+            Sentence.same("scoreAt(" + rate + ")", rates.scoreAt(rate), scores[rate]);
+            rates.setRate(rate);
+            Sentence.same("train at " + rate, rates.train(), scores[rate]);
+            Sentence.same("scoreAt(0) from " + rate, rates.scoreAt(0), NONE);
+        }
+        Sentence.refuses("scoreAt(4)", rates, INDEX, y -> y.scoreAt(4));
+        Sentence.refuses("scoreAt(-1)", rates, INDEX, y -> y.scoreAt(-1));
+        Sentence.same("the log has the trainings alone", rates.logSize(), 4);
 
         Sentence.of("scoreWithout: the score that training would give if this pattern were not tested; NONE if it would "
                 + "fail.");
