@@ -154,7 +154,7 @@ public final class SignalBoundsTest {
         Sentence.same("its phase", far.phase(1, 127), -25);
     }
 
-    /** Bit and phase at an offset from -100 on, with skew 100 and 1 ps a tap; or at lower ones. */
+    /** Bit and phase at an offset: a negative one is that of tap 0, for the skew makes it. */
     private static void sample(int period, int offset, int bit, int phase) {
         int skew = Math.max(0, -offset);
         LinkTraining x = fine("period " + period + " jitter 0", "skew " + skew + " width 1 vref 0 slope 0", "pattern p 0;");
