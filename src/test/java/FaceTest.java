@@ -4,11 +4,10 @@ import java.lang.reflect.Method;
 import java.lang.reflect.Modifier;
 import java.nio.file.Files;
 import java.nio.file.Path;
-import java.util.List;
 import java.util.Set;
 import java.util.TreeSet;
 
-/** The class has the document's face and nothing else that is visible, and keeps to rules that can be seen in its text. */
+/** The class has the document's face and nothing else that is visible (rule 1 of LANGUAGE.md). */
 public final class FaceTest {
     private static int wrong = 0;
 
@@ -85,19 +84,6 @@ public final class FaceTest {
         }
     }
 
-    private static void wording() throws Exception {
-        String text = Files.readString(Path.of("src/main/java/LinkTraining.java"));
-        for (String line : text.split("\n")) {
-            expect(!line.startsWith("import ") || line.equals("import java.util.ArrayList;")
-                    || line.equals("import java.util.NoSuchElementException;"), "import: " + line);
-        }
-        for (String word : List.of("catch", "finally", "synchronized", "assert", "Exact(", "->", "::", "System.out",
-                "package ", "equals(Object", "hashCode", "toString() {", "volatile", "float ")) {
-            expect(!text.contains(word), "the text has " + word);
-        }
-        expect(text.chars().allMatch(c -> c == '\n' || c >= 32 && c < 127), "a sign that is not plain");
-    }
-
     public static void main(String[] args) throws Exception {
         Set<String> document = documentFace();
         Set<String> program = programFace();
@@ -106,7 +92,6 @@ public final class FaceTest {
         program.stream().filter(s -> !document.contains(s)).forEach(s -> System.out.println("  not asked for: " + s));
         expect(Modifier.isFinal(LinkTraining.class.getModifiers()), "the class is final");
         privateNames();
-        wording();
         System.out.println("the face has " + document.size() + " members, " + wrong + " wrong");
         System.exit(wrong > 0 ? 1 : 0);
     }
