@@ -1,4 +1,3 @@
-import com.sun.source.tree.AssertTree;
 import com.sun.source.tree.BinaryTree;
 import com.sun.source.tree.BlockTree;
 import com.sun.source.tree.ClassTree;
@@ -6,16 +5,12 @@ import com.sun.source.tree.CompilationUnitTree;
 import com.sun.source.tree.EnhancedForLoopTree;
 import com.sun.source.tree.ForLoopTree;
 import com.sun.source.tree.ImportTree;
-import com.sun.source.tree.LambdaExpressionTree;
 import com.sun.source.tree.LiteralTree;
-import com.sun.source.tree.MemberReferenceTree;
 import com.sun.source.tree.MethodInvocationTree;
 import com.sun.source.tree.MethodTree;
 import com.sun.source.tree.NewClassTree;
-import com.sun.source.tree.SynchronizedTree;
 import com.sun.source.tree.ThrowTree;
 import com.sun.source.tree.Tree;
-import com.sun.source.tree.TryTree;
 import com.sun.source.tree.VariableTree;
 import com.sun.source.tree.WhileLoopTree;
 import com.sun.source.util.JavacTask;
@@ -59,6 +54,9 @@ public final class LanguageTest extends TreePathScanner<Void, Void> {
             "java.util.ArrayList", Set.of("ArrayList()", "add(E)", "add(int,E)", "get(int)", "set(int,E)", "remove(int)",
                     "size()", "isEmpty()", "clear()"),
             "java.lang.System", Set.of("arraycopy(java.lang.Object,int,java.lang.Object,int,int)"));
+    // What the program does without, and the rule that forbids it or binds it.
+    private static final Map<Tree.Kind, Integer> ABSENT = Map.of(Tree.Kind.LAMBDA_EXPRESSION, 2,
+            Tree.Kind.MEMBER_REFERENCE, 2, Tree.Kind.TRY, 6, Tree.Kind.SYNCHRONIZED, 6, Tree.Kind.ASSERT, 6);
     private static final int MOST_PARAMETERS = 7;
     private static final int MOST_LINES = 60;
     private static final int MOST_CALLS_DEEP = 8;
@@ -231,33 +229,11 @@ public final class LanguageTest extends TreePathScanner<Void, Void> {
     // Rules 2, 6 and 9: what is not there at all
 
     @Override
-    public Void visitLambdaExpression(LambdaExpressionTree tree, Void nothing) {
-        expect(2, tree, false, "a lambda");
-        return super.visitLambdaExpression(tree, nothing);
-    }
-
-    @Override
-    public Void visitMemberReference(MemberReferenceTree tree, Void nothing) {
-        expect(2, tree, false, "a method reference");
-        return super.visitMemberReference(tree, nothing);
-    }
-
-    @Override
-    public Void visitTry(TryTree tree, Void nothing) {
-        expect(6, tree, false, "a try");
-        return super.visitTry(tree, nothing);
-    }
-
-    @Override
-    public Void visitSynchronized(SynchronizedTree tree, Void nothing) {
-        expect(6, tree, false, "synchronized");
-        return super.visitSynchronized(tree, nothing);
-    }
-
-    @Override
-    public Void visitAssert(AssertTree tree, Void nothing) {
-        expect(6, tree, false, "assert");
-        return super.visitAssert(tree, nothing);
+    public Void scan(Tree tree, Void nothing) {
+        if (tree != null && ABSENT.containsKey(tree.getKind())) {
+            expect(ABSENT.get(tree.getKind()), tree, false, tree.getKind() + " is not needed");
+        }
+        return super.scan(tree, nothing);
     }
 
     @Override
